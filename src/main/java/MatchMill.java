@@ -1080,7 +1080,8 @@ public final class MatchMill {
 
     /** A value's way through the tree, and what names were bound to at its end. */
     private static final class Passage {
-        private final int[] questions = new int[MOST_ROWS_OF_QUESTIONS];
+        // Each question is about another part of the value.
+        private final int[] questions = new int[MOST_VALUE_SIZE];
         private final Term[] termOfName = new Term[ALL_NAMES];
         // What stands at the places of the way.
         private final ArrayList<Term> met = new ArrayList<>();
