@@ -39,6 +39,7 @@ public final class MatchMill {
     private final Passage latest;
     private boolean anyMade;
     private boolean built;
+    private boolean tooGreat;
 
     public MatchMill() {
         Types told = new Types();
@@ -134,7 +135,7 @@ public final class MatchMill {
             throw new IllegalStateException();
         }
         patterns.drop(1);
-        built = false;
+        forgetTree();
         return cases.add(pattern, guarded);
     }
 
@@ -142,11 +143,12 @@ public final class MatchMill {
         if (cases.size() == 0) {
             throw new IllegalStateException();
         }
-        // The same cases always have the same tree, so one that stands need not be built again.
-        if (!built) {
+        // The same cases always have the same tree, so it is tried once for them.
+        if (!built && !tooGreat) {
             built = tree.grow();
+            tooGreat = !built;
         }
-        if (!built) {
+        if (tooGreat) {
             throw new UnsupportedOperationException();
         }
         return tree.size();
@@ -217,7 +219,12 @@ public final class MatchMill {
         cases.forget();
         latest.forget();
         anyMade = false;
+        forgetTree();
+    }
+
+    private void forgetTree() {
         built = false;
+        tooGreat = false;
     }
 
     private static boolean isName(int name) {
@@ -514,7 +521,8 @@ public final class MatchMill {
         /** Binds names and leaves out wishes for any; the first wish that is an either, NONE without one. */
         int tidy() {
             int i = 0;
-            while (i < wishes) {
+            // Each step passes a wish or leaves one out.
+            for (int step = 0; step < MOST_PATTERN_SIZE && i < wishes; step++) {
                 Term term = wished[i];
                 if (term.ownNames != 0) {
                     bindNames(term.ownNames, places[i]);
@@ -560,19 +568,16 @@ public final class MatchMill {
         private void moveWishes(int from, int by) {
             if (by > 0) {
                 for (int i = wishes - 1; i >= from; i--) {
-                    moveWish(i, i + by);
+                    places[i + by] = places[i];
+                    wished[i + by] = wished[i];
                 }
             } else if (by < 0) {
                 for (int i = from; i < wishes; i++) {
-                    moveWish(i, i + by);
+                    places[i + by] = places[i];
+                    wished[i + by] = wished[i];
                 }
             }
             wishes += by;
-        }
-
-        private void moveWish(int from, int to) {
-            places[to] = places[from];
-            wished[to] = wished[from];
         }
     }
 
@@ -641,9 +646,10 @@ public final class MatchMill {
 
         /** Parts the rows from there on while they have eithers; false if the tree has too many rows. */
         private boolean part(int from, int at) {
-            for (int i = at; i < count; i++) {
+            for (int i = at; i < count && i < from + MOST_ROWS_OF_TREE; i++) {
                 Row row = rows.get(i);
-                for (int either = row.tidy(); either != NONE; either = row.tidy()) {
+                int either = row.tidy();
+                for (int parted = 0; parted < MOST_ROWS_OF_TREE && either != NONE; parted++) {
                     // Right behind it, and so before what was parted from it earlier.
                     Row second = insert(from, i + 1);
                     if (second == null) {
@@ -652,6 +658,7 @@ public final class MatchMill {
                     second.become(row);
                     row.choose(either, 0);
                     second.choose(either, 1);
+                    either = row.tidy();
                 }
             }
             return true;
@@ -708,7 +715,9 @@ public final class MatchMill {
         }
 
         void leave() {
-            answer(ANY, 0, 0, 0);
+            kind = ANY;
+            what = 0;
+            parts = 0;
         }
     }
 

@@ -1,0 +1,98 @@
+import com.sun.management.ThreadMXBean;
+import java.lang.management.ManagementFactory;
+
+/** What the dearest runs of 512 calls make: all calls of one run live in one room, where nothing is given back. */
+public final class RoomTests {
+    // 600,000 objects take some 10 million bytes at least, 7.3 million fields and elements some 29 million.
+    private static final long MOST_BYTES = 2_000_000;
+
+    private static int calls = 0;
+
+    public static void main(String[] args) {
+        // The first measured run also loads classes.
+        bytesOf(() -> new MatchMill().clear());
+        long bytes = bytesOf(RoomTests::dear);
+        System.out.println(bytes + " bytes in " + calls + " calls");
+        if (bytes > MOST_BYTES) {
+            System.out.println("a run makes more than " + MOST_BYTES + " bytes");
+            System.exit(1);
+        }
+        System.out.println("all answers are as due");
+    }
+
+    private static long bytesOf(Runnable calls) {
+        ThreadMXBean bean = (ThreadMXBean) ManagementFactory.getThreadMXBean();
+        long id = Thread.currentThread().getId();
+        long before = bean.getThreadAllocatedBytes(id);
+        calls.run();
+        return bean.getThreadAllocatedBytes(id) - before;
+    }
+
+    private static void dear() {
+        MatchMill mill = new MatchMill();
+        while (calls < 512) {
+            rowsToTheLimit(mill);
+            mill.clear();
+            rowsOfOneTree(mill);
+            mill.clear();
+            calls += 2;
+        }
+    }
+
+    /** 800 rows in 114 questions, as in PromiseTests; a case more is refused. */
+    private static void rowsToTheLimit(MatchMill mill) {
+        mill.type(0, 1);
+        mill.argument(0, 0, 1);
+        mill.argument(0, 0, 2);
+        mill.type(1, 8);
+        mill.type(2, 1);
+        mill.argument(2, 0, 2);
+        for (int i = 0; i < 8; i++) {
+            if (i == 0) {
+                mill.make(1, 0, false);
+            } else {
+                mill.any(1);
+            }
+            mill.any(2);
+            for (int depth = 0; depth < 14 && i > 0; depth++) {
+                mill.make(2, 0, false);
+                calls++;
+            }
+            mill.make(0, 0, false);
+            mill.addCase(i == 0);
+            mill.build();
+            calls += 5;
+        }
+        mill.any(0);
+        mill.addCase(false);
+        boolean refused = false;
+        try {
+            mill.build();
+        } catch (UnsupportedOperationException e) {
+            refused = true;
+        }
+        calls += 9;
+        if (!refused) {
+            System.out.println("more than 800 rows are not refused");
+            System.exit(1);
+        }
+    }
+
+    private static void rowsOfOneTree(MatchMill mill) {
+        mill.type(0, 0);
+        for (int i = 0; i < 80; i++) {
+            mill.number(0, i, false);
+            if (i % 8 > 0) {
+                mill.either();
+            }
+            if (i % 8 == 7) {
+                mill.addCase(true);
+                mill.build();
+                mill.number(0, i, true);
+                mill.match(0);
+                calls += 4;
+            }
+            calls += 2;
+        }
+    }
+}
