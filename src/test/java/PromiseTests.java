@@ -31,6 +31,7 @@ public final class PromiseTests {
         promise13();
         promise14();
         promise14Eithers();
+        promise14RowOrder();
         promise15();
         promise16();
         promise16Numbers();
@@ -921,6 +922,38 @@ public final class PromiseTests {
         is("none", mill.match(0), NONE);
         boundIs(mill, 0);
         boundIs(mill, 2);
+    }
+
+    /** Of an either in an either the rows keep the order of the patterns: the second one goes before the third. */
+    private static void promise14RowOrder() {
+        part = "promise 14, order of rows";
+        MatchMill mill = triples();
+        for (int named = 0; named < 3; named++) {
+            leaf(mill, false, named == 0 ? 0 : NONE);
+            nameIf(mill, named == 0);
+            mill.any(1);
+            nameIf(mill, named == 1);
+            mill.any(2);
+            nameIf(mill, named == 2);
+            mill.make(0, 0, false);
+            if (named > 0) {
+                mill.either();
+            }
+        }
+        mill.addCase(false);
+        mill.build();
+        triple(mill, true, 0, 1, 9);
+        is("first pattern", mill.match(0), 0);
+        boundIs(mill, 6, 1, 0);
+        triple(mill, true, 1, 0, 9);
+        is("second pattern", mill.match(0), 0);
+        boundIs(mill, 6, 1, 0);
+    }
+
+    private static void nameIf(MatchMill mill, boolean named) {
+        if (named) {
+            mill.name(6);
+        }
     }
 
     private static void promise15() {
