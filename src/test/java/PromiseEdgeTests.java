@@ -38,8 +38,11 @@ public final class PromiseEdgeTests {
         buildManyQuestions();
         buildRefusedAndCleared();
         buildAgain();
+        buildManyTimes();
         matchRefused();
+        matchFullPile();
         matchGuards();
+        matchGuardsOfNegatives();
         matchTheGreatest();
         askedOutside();
         askedStays();
@@ -189,12 +192,18 @@ public final class PromiseEdgeTests {
     private static void typeBehindMade() {
         for (int way = 0; way < 5; way++) {
             Twins mills = new Twins("promise 2: a pattern or value was made, way " + way);
-            mills.type(0, 1);
+            mills.type(0, 2);
+            mills.argument(0, 1, 0);
             mills.type(1, 0);
             mills.refuses("any of an untold type", Twins.ARGUMENT, mill -> mill.any(2));
-            mills.refuses("constructor 1", Twins.ARGUMENT, mill -> mill.make(0, 1, true));
+            mills.refuses("a number of what has constructors", Twins.ARGUMENT, mill -> mill.number(0, 1, true));
+            mills.refuses("constructor 2", Twins.ARGUMENT, mill -> mill.make(0, 2, true));
+            mills.refuses("without a value for its argument", Twins.STATE, mill -> mill.make(0, 1, true));
+            mills.refuses("without a pattern for its argument", Twins.STATE, mill -> mill.make(0, 1, false));
+            mills.refuses("either of none", Twins.STATE, MatchMill::either);
             mills.is("a size of none", mills.pop(true), 0);
             mills.type(2, 1);
+            mills.is("no refused call has made one", mills.argument(2, 0, 1), 1);
             makeOne(mills, way);
             mills.refuses("type", Twins.STATE, mill -> mill.type(3, 1));
             mills.refuses("type 16", Twins.ARGUMENT, mill -> mill.type(16, 1));
@@ -735,6 +744,59 @@ public final class PromiseEdgeTests {
         mills.end();
     }
 
+    /** Ten numbers for the first argument, ten for the second behind each of 11 answers, in each of 19 trees. */
+    private static void buildManyTimes() {
+        Twins mills = new Twins("promise 11: the tree of the cases is built, many times");
+        mills.type(0, 1);
+        mills.argument(0, 0, 1);
+        mills.argument(0, 0, 1);
+        mills.type(1, 0);
+        eithers(mills, 0, 10);
+        mills.any(1);
+        mills.make(0, 0, false);
+        mills.addCase(true);
+        mills.any(1);
+        eithers(mills, 0, 10);
+        mills.make(0, 0, false);
+        mills.addCase(true);
+        for (int cases = 2; cases <= 20; cases++) {
+            mills.is("build", mills.build(), 13);
+            mills.questionIs(12, 8 + cases, 11);
+            mills.number(1, 10, true);
+            mills.number(1, 9, true);
+            mills.make(0, 0, true);
+            mills.is("match", mills.match(3), 1);
+            mills.askedIs(0, 1, 12);
+            if (cases < 20) {
+                mills.any(0);
+                mills.addCase(true);
+            }
+        }
+        mills.end();
+    }
+
+    private static void matchFullPile() {
+        Twins mills = lists("promise 12: the topmost value goes, until there is none");
+        mills.any(1);
+        mills.name(0);
+        mills.addCase(false);
+        mills.build();
+        for (int i = 0; i < 40; i++) {
+            mills.number(1, i, true);
+        }
+        for (int i = 39; i >= 0; i--) {
+            mills.is("match", mills.match(0), 0);
+            mills.boundIs(0, 0, i);
+            mills.is("values", mills.about(2), i);
+        }
+        mills.refuses("none", Twins.STATE, mill -> mill.match(0));
+        mills.clear();
+        mills.type(1, 0);
+        mills.number(1, 0, true);
+        mills.refuses("nothing is built behind clear()", Twins.STATE, mill -> mill.match(0));
+        mills.end();
+    }
+
     private static void matchRefused() {
         Twins mills = lists("promise 12: there is none, it is of another type, or nothing is built");
         mills.refuses("none, nothing built", Twins.STATE, mill -> mill.match(0));
@@ -756,6 +818,23 @@ public final class PromiseEdgeTests {
         mills.addCase(false);
         mills.make(2, 0, true);
         mills.refuses("no more built", Twins.STATE, mill -> mill.match(0));
+        mills.end();
+    }
+
+    /** Of each value one case alone can take it, so that the bits above its own do not hide it. */
+    private static void matchGuardsOfNegatives() {
+        Twins mills = lists("promise 12: bit k of guards, of numbers below 0 too");
+        for (int i = 0; i < 3; i++) {
+            mills.make(2, i, false);
+            mills.addCase(true);
+        }
+        mills.build();
+        for (int guards : new int[] {-1, -2, -3, -4, -5, LEAST, LEAST + 2, GREATEST}) {
+            for (int i = 0; i < 3; i++) {
+                mills.make(2, i, true);
+                mills.is("match(" + guards + ")", mills.match(guards), (guards >> i & 1) == 1 ? i : NONE);
+            }
+        }
         mills.end();
     }
 
@@ -815,6 +894,7 @@ public final class PromiseEdgeTests {
         }
         mills.is("questions", mills.build(), 60);
         mills.aboutIs(4, 0, 0, 60, 4, 1, 60);
+        mills.questionIs(59, 1, 1, 59, 3);
         whole(mills, arguments, 0, true);
         mills.is("the last case", mills.match(8), 3);
         for (int i = 0; i <= 60; i++) {

@@ -11,13 +11,20 @@ public final class RoomTests {
     public static void main(String[] args) {
         // The first measured run also loads classes.
         bytesOf(() -> new MatchMill().clear());
-        long bytes = bytesOf(RoomTests::dear);
-        System.out.println(bytes + " bytes in " + calls + " calls");
-        if (bytes > MOST_BYTES) {
+        boolean small = staysSmall("many trees", RoomTests::dear);
+        small &= staysSmall("many values", RoomTests::manyValues);
+        if (!small) {
             System.out.println("a run makes more than " + MOST_BYTES + " bytes");
             System.exit(1);
         }
         System.out.println("all answers are as due");
+    }
+
+    private static boolean staysSmall(String what, Runnable run) {
+        calls = 0;
+        long bytes = bytesOf(run);
+        System.out.println(what + ": " + bytes + " bytes in " + calls + " calls");
+        return bytes <= MOST_BYTES;
     }
 
     private static long bytesOf(Runnable calls) {
@@ -35,6 +42,17 @@ public final class RoomTests {
             mill.clear();
             rowsOfOneTree(mill);
             mill.clear();
+            calls += 2;
+        }
+    }
+
+    /** Values led through a tree with 80 rows, until the calls are used up. */
+    private static void manyValues() {
+        MatchMill mill = new MatchMill();
+        rowsOfOneTree(mill);
+        while (calls < 512) {
+            mill.number(0, calls % 80, true);
+            mill.match(-1);
             calls += 2;
         }
     }

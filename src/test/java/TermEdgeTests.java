@@ -38,6 +38,8 @@ public final class TermEdgeTests {
         answersForConstructors();
         answersForNumbers();
         rowsBehindAnswers();
+        rowsWithoutWishForPlace();
+        rowsBehindAnyOther();
         orderOfQuestions();
         orderBehindGuards();
         toldOfValues();
@@ -797,6 +799,52 @@ public final class TermEdgeTests {
         mills.end();
     }
 
+    private static void rowsWithoutWishForPlace() {
+        Twins mills = pairs("behind each answer are those without a wish for that place, as they are");
+        pair(mills, NONE, 1, false);
+        mills.addCase(false);
+        pair(mills, 0, NONE, false);
+        mills.addCase(false);
+        mills.is("questions", mills.build(), 3);
+        mills.questionIs(1, 2, 2, 1, 1);
+        mills.questionIs(2, 1, 2, 2, 1);
+        int[] due = {1, 0, NONE, 0};
+        for (int i = 0; i < 4; i++) {
+            pair(mills, i / 2, i % 2, true);
+            mills.is("match " + i, mills.match(0), due[i]);
+        }
+        mills.unusedIs();
+        mills.missingIs(1, 0, 1, 1, 1, 0);
+        mills.end();
+    }
+
+    private static void rowsBehindAnyOther() {
+        Twins mills = pairs("behind the answer for any other number are the rows that wish none there");
+        for (int i = 0; i < 2; i++) {
+            mills.number(2, 5 + i, false);
+            mills.any(2);
+            mills.make(3, 0, false);
+            mills.addCase(false);
+        }
+        mills.any(2);
+        mills.number(2, 9, false);
+        mills.make(3, 0, false);
+        mills.addCase(false);
+        mills.is("questions", mills.build(), 3);
+        mills.questionIs(1, 3, 3, 1, 1);
+        mills.questionIs(2, 1, 2, 2, 1);
+        int[] firsts = {5, 6, 4, 7, 9, 0, LEAST, GREATEST};
+        for (int i = 0; i < firsts.length; i++) {
+            mills.number(2, firsts[i], true);
+            mills.number(2, 9, true);
+            mills.make(3, 0, true);
+            mills.is("match " + firsts[i], mills.match(0), Math.min(i, 2));
+        }
+        mills.askedIs(0, 1, 2);
+        mills.missingIs(1, 0, 0, 0, 0, 0);
+        mills.end();
+    }
+
     private static void orderOfQuestions() {
         Twins mills = bushes("each question is before those behind its answers, these answer by answer");
         for (int constructor = 1; constructor <= 4; constructor++) {
@@ -915,13 +963,13 @@ public final class TermEdgeTests {
         mills.argument(0, 0, 1);
         mills.argument(0, 0, 2);
         mills.type(1, 2);
-        mills.type(2, 1);
-        mills.argument(2, 0, 1);
-        mills.argument(2, 0, 1);
+        mills.type(2, 2);
+        mills.argument(2, 1, 1);
+        mills.argument(2, 1, 1);
         mills.make(1, 0, false);
         mills.any(1);
         mills.make(1, 0, false);
-        mills.make(2, 0, false);
+        mills.make(2, 1, false);
         mills.make(0, 0, false);
         mills.addCase(false);
         mills.make(1, 0, false);
