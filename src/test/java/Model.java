@@ -431,6 +431,10 @@ final class Model {
         return tree == null ? 0 : missing.size();
     }
 
+    int lengthOfAsked() {
+        return asked.size();
+    }
+
     int lengthOfBound(int name) {
         return bound.containsKey(name) ? bound.get(name).size() : 0;
     }

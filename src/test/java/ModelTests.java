@@ -1,8 +1,19 @@
+import java.util.ArrayList;
+import java.util.List;
 import java.util.Random;
 import java.util.function.IntSupplier;
+import java.util.function.ToIntFunction;
 
-/** Runs of calls, drawn with fixed seeds, on a MatchMill and on the Model: both must answer and throw alike. */
+/**
+ * Runs of calls, drawn with fixed seeds, on a MatchMill and on the Model: both must answer and throw alike. Now and then
+ * all is asked for that can be, on other objects that got the same calls, as an object is used for 512 calls alone.
+ */
 public final class ModelTests {
+    private static final int MOST_CALLS = 512;
+    // The others are left to ask with.
+    private static final int MOST_CALLS_OF_RUN = 440;
+    private static final String LEFT_OUT = "left out";
+
     private static int wrong = 0;
     private static int builds = 0;
     private static int refused = 0;
@@ -14,7 +25,9 @@ public final class ModelTests {
     private final int run;
     private final MatchMill mill = new MatchMill();
     private final Model model = new Model();
-    private int calls = 0;
+    private final List<ToIntFunction<MatchMill>> calls = new ArrayList<>();
+    private MatchMill asked = null;
+    private int callsOfAsked = 0;
     private int[] constructors = new int[16];
     private int[][] arguments = new int[128][];
     private int types;
@@ -50,13 +63,41 @@ public final class ModelTests {
         }
     }
 
-    private String same(String what, IntSupplier ofMill, IntSupplier ofModel) {
-        calls++;
-        String got = outcome(ofMill);
+    private static boolean isAnswer(String outcome) {
+        return !outcome.startsWith("java") && !outcome.equals(LEFT_OUT);
+    }
+
+    /** A call of the run; left out for both if it has had enough. */
+    private String same(String what, ToIntFunction<MatchMill> ofMill, IntSupplier ofModel) {
+        if (calls.size() == MOST_CALLS_OF_RUN) {
+            return LEFT_OUT;
+        }
+        calls.add(ofMill);
+        asked = null;
+        return compare(what, mill, ofMill, ofModel);
+    }
+
+    /** A call that changes nothing, on an object of its own that got the calls of the run before. */
+    private void ask(String what, ToIntFunction<MatchMill> ofMill, IntSupplier ofModel) {
+        if (asked == null || callsOfAsked == MOST_CALLS) {
+            MatchMill again = new MatchMill();
+            for (ToIntFunction<MatchMill> call : calls) {
+                outcome(() -> call.applyAsInt(again));
+            }
+            asked = again;
+            callsOfAsked = calls.size();
+        }
+        callsOfAsked++;
+        compare(what, asked, ofMill, ofModel);
+    }
+
+    private String compare(String what, MatchMill on, ToIntFunction<MatchMill> ofMill, IntSupplier ofModel) {
+        String got = outcome(() -> ofMill.applyAsInt(on));
         String want = outcome(ofModel);
         if (!got.equals(want)) {
             wrong++;
-            System.out.println("run " + run + ", call " + calls + ": " + what + " answered " + got + ", due is " + want);
+            System.out.println("run " + run + ", behind " + calls.size() + " calls: " + what + " answered " + got
+                    + ", due is " + want);
         }
         return got;
     }
@@ -74,12 +115,12 @@ public final class ModelTests {
                 }
             }
             if (random.nextInt(3) == 0) {
-                same("clear()", () -> { mill.clear(); return 0; }, () -> { model.clear(); return 0; });
+                same("clear()", x -> { x.clear(); return 0; }, () -> { model.clear(); return 0; });
                 observe();
             } else {
                 return;
             }
-        } while (calls < 400);
+        } while (calls.size() < 350);
     }
 
     private void tellTypes() {
@@ -116,7 +157,7 @@ public final class ModelTests {
 
     private void tellType(int type, int count) {
         constructors[type] = count;
-        same("type(" + type + ", " + count + ")", () -> { mill.type(type, count); return 0; },
+        same("type(" + type + ", " + count + ")", x -> { x.type(type, count); return 0; },
                 () -> { model.type(type, count); return 0; });
     }
 
@@ -127,7 +168,7 @@ public final class ModelTests {
             int of = wide || constructor == 0 ? Math.min(types - 1, type + 1) : random.nextInt(types);
             arguments[type * 8 + constructor][i] = of;
             same("argument(" + type + ", " + constructor + ", " + of + ")",
-                    () -> mill.argument(type, constructor, of), () -> model.argument(type, constructor, of));
+                    x -> x.argument(type, constructor, of), () -> model.argument(type, constructor, of));
         }
     }
 
@@ -138,13 +179,13 @@ public final class ModelTests {
         int names = random.nextInt(3) == 0 ? 0 : random.nextInt(256);
         int eithers = random.nextInt(4);
         int guards = random.nextInt(4);
-        for (int i = 0; i < count && calls < 480; i++) {
+        for (int i = 0; i < count; i++) {
             pattern(type, budget, names, eithers, 12);
             boolean guarded = random.nextInt(4) < guards;
             if (random.nextInt(30) == 0) {
-                same("pop(false)", () -> mill.pop(false), () -> model.pop(false));
+                same("pop(false)", x -> x.pop(false), () -> model.pop(false));
             } else {
-                same("addCase(" + guarded + ")", () -> mill.addCase(guarded), () -> model.addCase(guarded));
+                same("addCase(" + guarded + ")", x -> x.addCase(guarded), () -> model.addCase(guarded));
             }
         }
     }
@@ -158,14 +199,14 @@ public final class ModelTests {
             int leftBudget = budget / 2;
             pattern(type, leftBudget, kept, eithers, depth - 1);
             pattern(type, budget - 1 - leftBudget, kept, eithers, depth - 1);
-            same("either()", mill::either, model::either);
+            same("either()", MatchMill::either, model::either);
         } else {
             plainPattern(type, budget, inside, eithers, depth);
         }
         for (int name = 0; name < 8; name++) {
             int n = name;
             if ((own >> name & 1) == 1) {
-                same("name(" + n + ")", () -> mill.name(n), () -> model.name(n));
+                same("name(" + n + ")", x -> x.name(n), () -> model.name(n));
             }
         }
     }
@@ -177,7 +218,7 @@ public final class ModelTests {
             } else if (constructors[type] > 0 && arguments[type * 8].length == 0 && random.nextInt(3) == 0) {
                 construct(type, 0, false);
             } else {
-                same("any(" + type + ")", () -> mill.any(type), () -> model.any(type));
+                same("any(" + type + ")", x -> x.any(type), () -> model.any(type));
             }
             return;
         }
@@ -199,33 +240,33 @@ public final class ModelTests {
     private void number(int type, boolean value) {
         int number = random.nextInt(50) == 0 ? Integer.MIN_VALUE + random.nextInt(2) : random.nextInt(numberRange) - 1;
         same("number(" + type + ", " + number + ", " + value + ")",
-                () -> mill.number(type, number, value), () -> model.number(type, number, value));
+                x -> x.number(type, number, value), () -> model.number(type, number, value));
     }
 
     private void construct(int type, int constructor, boolean value) {
         same("make(" + type + ", " + constructor + ", " + value + ")",
-                () -> mill.make(type, constructor, value), () -> model.make(type, constructor, value));
+                x -> x.make(type, constructor, value), () -> model.make(type, constructor, value));
     }
 
     private void build() {
-        String questions = same("build()", mill::build, model::build);
-        builds++;
+        String questions = same("build()", MatchMill::build, model::build);
         if (questions.endsWith("UnsupportedOperationException")) {
             refused++;
-        } else if (!questions.startsWith("java")) {
+        } else if (isAnswer(questions)) {
+            builds++;
             greatest = Math.max(greatest, Integer.parseInt(questions));
-            longestWay = Math.max(longestWay, mill.about(6));
+            longestWay = Math.max(longestWay, model.about(6));
         }
         observe();
     }
 
     private void values() {
         int count = 1 + random.nextInt(8);
-        for (int i = 0; i < count && calls < 480; i++) {
+        for (int i = 0; i < count; i++) {
             value(random.nextInt(12) == 0 ? random.nextInt(types) : 0, 1 + random.nextInt(40), 6);
             int guards = random.nextInt();
-            String took = same("match(" + guards + ")", () -> mill.match(guards), () -> model.match(guards));
-            if (!took.startsWith("java") && !took.equals("-1")) {
+            String took = same("match(" + guards + ")", x -> x.match(guards), () -> model.match(guards));
+            if (isAnswer(took) && !took.equals("-1")) {
                 taken++;
             }
             observeMatch();
@@ -255,64 +296,66 @@ public final class ModelTests {
             int b = odd(8);
             int c = odd(16);
             boolean value = random.nextBoolean();
-            switch (random.nextInt(11)) {
-                case 0 -> same("type", () -> { mill.type(a, b); return 0; }, () -> { model.type(a, b); return 0; });
-                case 1 -> same("argument", () -> mill.argument(a, b, c), () -> model.argument(a, b, c));
-                case 2 -> same("any", () -> mill.any(a), () -> model.any(a));
-                case 3 -> same("number", () -> mill.number(a, b, value), () -> model.number(a, b, value));
-                case 4 -> same("make", () -> mill.make(a, b, value), () -> model.make(a, b, value));
-                case 5 -> same("either", mill::either, model::either);
-                case 6 -> same("name", () -> mill.name(b), () -> model.name(b));
-                case 7 -> same("pop", () -> mill.pop(value), () -> model.pop(value));
-                case 8 -> same("addCase", () -> mill.addCase(value), () -> model.addCase(value));
-                case 9 -> same("build", mill::build, model::build);
-                default -> same("match", () -> mill.match(a), () -> model.match(a));
+            switch (random.nextInt(18)) {
+                case 0 -> same("type", x -> { x.type(a, b); return 0; }, () -> { model.type(a, b); return 0; });
+                case 1 -> same("argument", x -> x.argument(a, b, c), () -> model.argument(a, b, c));
+                case 2 -> same("any", x -> x.any(a), () -> model.any(a));
+                case 3 -> same("number", x -> x.number(a, b, value), () -> model.number(a, b, value));
+                case 4 -> same("make", x -> x.make(a, b, value), () -> model.make(a, b, value));
+                case 5 -> same("either", MatchMill::either, model::either);
+                case 6 -> same("name", x -> x.name(b), () -> model.name(b));
+                case 7 -> same("pop", x -> x.pop(value), () -> model.pop(value));
+                case 8 -> same("addCase", x -> x.addCase(value), () -> model.addCase(value));
+                case 9 -> same("build", MatchMill::build, model::build);
+                case 10 -> same("match", x -> x.match(a), () -> model.match(a));
+                case 11 -> same("asked", x -> x.asked(a), () -> model.asked(a));
+                case 12 -> same("bound", x -> x.bound(b), () -> model.bound(b));
+                case 13 -> same("boundAt", x -> x.boundAt(b, a), () -> model.boundAt(b, a));
+                case 14 -> same("missing", x -> x.missing(a), () -> model.missing(a));
+                case 15 -> same("unused", x -> x.unused(a), () -> model.unused(a));
+                case 16 -> same("question", x -> x.question(a, b), () -> model.question(a, b));
+                default -> same("about", x -> x.about(b), () -> model.about(b));
             }
-            calls--;
         }
         observe();
     }
 
     private void observe() {
-        int before = calls;
         for (int what = -1; what < 8; what++) {
             int w = what;
-            same("about(" + w + ")", () -> mill.about(w), () -> model.about(w));
+            ask("about(" + w + ")", x -> x.about(w), () -> model.about(w));
         }
         for (int i = -1; i < 22; i++) {
             int k = i;
-            same("unused(" + k + ")", () -> mill.unused(k), () -> model.unused(k));
+            ask("unused(" + k + ")", x -> x.unused(k), () -> model.unused(k));
         }
         for (int i = -1; i < model.lengthOfMissing() + 3; i++) {
             int k = i;
-            same("missing(" + k + ")", () -> mill.missing(k), () -> model.missing(k));
+            ask("missing(" + k + ")", x -> x.missing(k), () -> model.missing(k));
         }
-        int questions = mill.about(3);
+        int questions = model.about(3);
         for (int q = -1; q <= questions; q++) {
             for (int what = -1; what < 5; what++) {
                 int k = q;
                 int w = what;
-                same("question(" + k + ", " + w + ")", () -> mill.question(k, w), () -> model.question(k, w));
+                ask("question(" + k + ", " + w + ")", x -> x.question(k, w), () -> model.question(k, w));
             }
         }
         observeMatch();
-        calls = before;
     }
 
     private void observeMatch() {
-        int before = calls;
-        for (int i = -1; i < 100; i++) {
+        for (int i = -1; i < model.lengthOfAsked() + 3; i++) {
             int k = i;
-            same("asked(" + k + ")", () -> mill.asked(k), () -> model.asked(k));
+            ask("asked(" + k + ")", x -> x.asked(k), () -> model.asked(k));
         }
         for (int name = -1; name < 9; name++) {
             int n = name;
-            same("bound(" + n + ")", () -> mill.bound(n), () -> model.bound(n));
+            ask("bound(" + n + ")", x -> x.bound(n), () -> model.bound(n));
             for (int i = -1; i < model.lengthOfBound(n) + 3; i++) {
                 int k = i;
-                same("boundAt(" + n + ", " + k + ")", () -> mill.boundAt(n, k), () -> model.boundAt(n, k));
+                ask("boundAt(" + n + ", " + k + ")", x -> x.boundAt(n, k), () -> model.boundAt(n, k));
             }
         }
-        calls = before;
     }
 }

@@ -42,7 +42,6 @@ public final class PromiseTests {
         promise18Order();
         promise19();
         promise20();
-        beyond512();
         System.out.println(wrong == 0 ? "all answers are as due" : wrong + " answers are not as due");
         if (wrong != 0) {
             System.exit(1);
@@ -1233,24 +1232,5 @@ public final class PromiseTests {
         mill.clear();
         mill.clear();
         isNew(mill);
-    }
-
-    /** What later calls answer is free, but they must neither fail by themselves nor run on. */
-    private static void beyond512() {
-        part = "beyond 512 calls";
-        MatchMill mill = lists();
-        for (int i = 0; i < 3000; i++) {
-            list(mill, false, i % 5, i % 3);
-            mill.name(i % 8);
-            try {
-                mill.addCase(i % 2 == 0);
-                mill.build();
-            } catch (IllegalStateException e) {
-                mill.pop(false);
-            }
-            list(mill, true, i % 4, i % 2);
-            mill.match(i);
-        }
-        is("values", mill.about(2), 0);
     }
 }

@@ -6,6 +6,8 @@ public final class RoomTests {
     // 600,000 objects take some 10 million bytes at least, 7.3 million fields and elements some 29 million.
     private static final long MOST_BYTES = 2_000_000;
 
+    private static final int MOST_CALLS = 512;
+
     private static int calls = 0;
 
     public static void main(String[] args) {
@@ -14,7 +16,7 @@ public final class RoomTests {
         boolean small = staysSmall("many trees", RoomTests::dear);
         small &= staysSmall("many values", RoomTests::manyValues);
         if (!small) {
-            System.out.println("a run makes more than " + MOST_BYTES + " bytes");
+            System.out.println("a run makes more than " + MOST_BYTES + " bytes, or has more than " + MOST_CALLS + " calls");
             System.exit(1);
         }
         System.out.println("all answers are as due");
@@ -24,7 +26,7 @@ public final class RoomTests {
         calls = 0;
         long bytes = bytesOf(run);
         System.out.println(what + ": " + bytes + " bytes in " + calls + " calls");
-        return bytes <= MOST_BYTES;
+        return bytes <= MOST_BYTES && calls <= MOST_CALLS;
     }
 
     private static long bytesOf(Runnable calls) {
@@ -37,20 +39,19 @@ public final class RoomTests {
 
     private static void dear() {
         MatchMill mill = new MatchMill();
-        while (calls < 512) {
-            rowsToTheLimit(mill);
-            mill.clear();
-            rowsOfOneTree(mill);
-            mill.clear();
-            calls += 2;
-        }
+        rowsToTheLimit(mill);
+        mill.clear();
+        rowsOfOneTree(mill);
+        mill.clear();
+        rowsToTheLimit(mill);
+        calls += 2;
     }
 
     /** Values led through a tree with 80 rows, until the calls are used up. */
     private static void manyValues() {
         MatchMill mill = new MatchMill();
         rowsOfOneTree(mill);
-        while (calls < 512) {
+        while (calls + 2 <= MOST_CALLS) {
             mill.number(0, calls % 80, true);
             mill.match(-1);
             calls += 2;
@@ -98,10 +99,13 @@ public final class RoomTests {
 
     private static void rowsOfOneTree(MatchMill mill) {
         mill.type(0, 0);
+        calls++;
         for (int i = 0; i < 80; i++) {
             mill.number(0, i, false);
+            calls++;
             if (i % 8 > 0) {
                 mill.either();
+                calls++;
             }
             if (i % 8 == 7) {
                 mill.addCase(true);
@@ -110,7 +114,6 @@ public final class RoomTests {
                 mill.match(0);
                 calls += 4;
             }
-            calls += 2;
         }
     }
 }
